@@ -347,9 +347,12 @@ public final class MakerStarts {
 
         /** Takes a NAME or a NUMBER; its letters or its value. */
         long needWord(int kind) {
-            long word = words[at];
-            need(kind);
-            return word;
+            if (fault == 0 && kinds[at] == kind && at < count) {
+                at++;
+                return words[at - 1];
+            }
+            fail(2);
+            return 0;
         }
 
         /** The kind of the token that is next; END behind a fault. */
@@ -679,8 +682,9 @@ public final class MakerStarts {
         int kind = ALONE;
         boolean ahead = false;
         /** Of T . NAME the place of T and of NAME; else both are the same. */
-        int place, namePlace;
-        long name, owner;
+        final int place;
+        int namePlace;
+        long name, owner = 0;
         /** How many EXPS new gives. */
         int count = 0;
         int parameter = NONE;
@@ -688,9 +692,12 @@ public final class MakerStarts {
         /** Where its code stands. */
         int at = NONE;
 
-        Use(Member member, boolean still) {
+        Use(Member member, boolean still, int place, long name) {
             this.member = member;
             this.still = still;
+            this.place = place;
+            this.namePlace = place;
+            this.name = name;
         }
 
         int op() {
@@ -734,7 +741,21 @@ public final class MakerStarts {
             for (int i = 0; i <= TYPES && tokens.is(KEY_TYPE); i++) {
                 Type one = head();
                 for (int k = 0; k <= MEMBERS && startsMember(); k++) {
-                    member(one);
+                    Member member = open(one);
+                    if (tokens.take(KEY_FIELD)) {
+                        fieldMember(member);
+                    } else if (tokens.is(KEY_BLOCK)) {
+                        blockMember(member);
+                    } else if (member.still) {
+                        tokens.fail(2);
+                    } else if (tokens.take(KEY_CONST)) {
+                        constMember(member);
+                    } else if (tokens.take(KEY_ACT)) {
+                        actMember(member);
+                    } else {
+                        makerMember(member);
+                    }
+                    one.add(member);
                 }
                 tokens.need('}');
                 if (one.makerCount == 0) {
@@ -794,28 +815,14 @@ public final class MakerStarts {
             }
         }
 
-        private void member(Type one) {
+        private Member open(Type one) {
             if (one.count >= MEMBERS) {
                 tokens.fail(3);
-                return;
             }
             Member member = new Member(one, one.count);
             member.place = tokens.spot();
             member.still = tokens.take(KEY_STATIC);
-            if (tokens.take(KEY_FIELD)) {
-                fieldMember(member);
-            } else if (tokens.is(KEY_BLOCK)) {
-                blockMember(member);
-            } else if (member.still) {
-                tokens.fail(2);
-            } else if (tokens.take(KEY_CONST)) {
-                constMember(member);
-            } else if (tokens.take(KEY_ACT)) {
-                actMember(member);
-            } else {
-                makerMember(member);
-            }
-            one.add(member);
+            return member;
         }
 
         private void nameMember(Member member, int kind, int rivals) {
@@ -857,7 +864,9 @@ public final class MakerStarts {
             member.kind = BLOCK;
             member.namePlace = tokens.spot();
             tokens.take(KEY_BLOCK);
-            memberBody(member);
+            bodies.enterBody(member);
+            bodies.body();
+            text.form(CLOSED, 0, 0);
             text.put(OP_BACK);
         }
 
@@ -865,7 +874,9 @@ public final class MakerStarts {
             nameMember(member, ACT, ACT);
             tokens.need('(');
             tokens.need(')');
-            memberBody(member);
+            bodies.enterBody(member);
+            bodies.body();
+            text.form(CLOSED, 0, 0);
             text.put(OP_PUSH, 0);
             text.put(OP_RETURN);
         }
@@ -886,7 +897,9 @@ public final class MakerStarts {
             if (tokens.is(KEY_THIS) || tokens.is(KEY_SUPER)) {
                 otherMaker(member);
             }
-            memberBody(member);
+            bodies.enterBody(member);
+            bodies.body();
+            text.form(CLOSED, 0, 0);
             text.put(OP_BACK);
         }
 
@@ -927,14 +940,6 @@ public final class MakerStarts {
             text.put(OP_BACK);
             tokens.need(';');
         }
-
-        private void memberBody(Member member) {
-            bodies.enter(member, member.still);
-            member.code = text.size;
-            member.shape = text.shapes;
-            bodies.body();
-            text.form(CLOSED, 0, 0);
-        }
     }
 
     /** Reads BODIES and EXPS, writing their code and shape as it goes; NAMES are left to Judge. */
@@ -958,6 +963,12 @@ public final class MakerStarts {
         void enter(Member of, boolean stillPlace) {
             member = of;
             still = stillPlace;
+        }
+
+        void enterBody(Member of) {
+            enter(of, of.still);
+            of.code = text.size;
+            of.shape = text.shapes;
         }
 
         /** A NUMBER of 1 .. most; 0 if it is another one. */
@@ -1040,7 +1051,12 @@ public final class MakerStarts {
                 text.put(OP_THROW, number);
                 text.form(THROWS, number, 0);
             } else if (tokens.take(KEY_NEW)) {
-                newStatement();
+                Use use = new Use(member, still, tokens.spot(), tokens.needWord(NAME));
+                use.kind = NEWED;
+                use.count = exps();
+                text.put(OP_STEP);
+                write(use);
+                text.form(NEWS, text.uses.size() - 1, 0);
             } else if (tokens.take(KEY_RETURN)) {
                 exp();
                 text.put(OP_RETURN);
@@ -1049,17 +1065,8 @@ public final class MakerStarts {
             tokens.need(';');
         }
 
-        private void newStatement() {
-            Use use = use();
-            use.kind = NEWED;
-            use.count = exps();
-            text.put(OP_STEP);
-            write(use);
-            text.form(NEWS, text.uses.size() - 1, 0);
-        }
-
         private void setStatement() {
-            Use use = use();
+            Use use = new Use(member, still, tokens.spot(), tokens.needWord(NAME));
             use.ahead = true;
             dot(use);
             tokens.need('=');
@@ -1177,7 +1184,14 @@ public final class MakerStarts {
             if (tokens.is(NUMBER)) {
                 text.put(OP_PUSH, (int) tokens.needWord(NUMBER));
             } else if (tokens.is(NAME)) {
-                nameFactor();
+                Use use = new Use(member, still, tokens.spot(), tokens.needWord(NAME));
+                if (tokens.take('(')) {
+                    use.kind = CALLED;
+                    tokens.need(')');
+                } else {
+                    dot(use);
+                }
+                write(use);
             } else if (tokens.is('-')) {
                 if (opens('-')) {
                     factor();
@@ -1189,26 +1203,6 @@ public final class MakerStarts {
                 tokens.need(')');
                 depth--;
             }
-        }
-
-        private void nameFactor() {
-            Use use = use();
-            if (tokens.take('(')) {
-                use.kind = CALLED;
-                tokens.need(')');
-            } else {
-                dot(use);
-            }
-            write(use);
-        }
-
-        /** Takes a NAME, to be judged later. */
-        private Use use() {
-            Use use = new Use(member, still);
-            use.place = tokens.spot();
-            use.namePlace = use.place;
-            use.name = tokens.needWord(NAME);
-            return use;
         }
 
         private void dot(Use use) {
@@ -1588,6 +1582,8 @@ public final class MakerStarts {
         private Frame now = lowest;
         /** In a constant's EXP a division by 0 gives 0. */
         private boolean lenient = false;
+        /** What is on its way out of tries and frames: nothing, what was THROWN, what was returned. */
+        private int leaving = NOTHING, leavingValue = 0;
         private boolean over = true;
         private int answer = 0;
 
@@ -1666,8 +1662,15 @@ public final class MakerStarts {
             pc = entry;
             over = false;
             answer = 0;
+            leaving = NOTHING;
             for (int i = 0; i < TURNS && !over; i++) {
-                turn();
+                if (leaving == NOTHING) {
+                    turn();
+                } else if (now.isTrying()) {
+                    leaveTry();
+                } else {
+                    leaveFrame();
+                }
             }
             if (!over) {
                 spend();
@@ -1749,7 +1752,7 @@ public final class MakerStarts {
                     keepMark(pop());
                     break;
                 case OP_THROW:
-                    raise(next());
+                    leaveWith(A_THROW, next());
                     break;
                 case OP_IF:
                     test(next());
@@ -1762,13 +1765,14 @@ public final class MakerStarts {
                     pc += TRY_END;
                     break;
                 case OP_LEAVE:
-                    leave();
+                    endPart();
                     break;
                 case OP_FINISH:
-                    finish();
+                    leaveWith(now.waits(), now.waitingValue());
+                    now.closeTry();
                     break;
                 case OP_RETURN:
-                    giveBack(pop());
+                    leaveWith(A_RETURN, pop());
                     break;
                 case OP_OWN:
                     now.own = true;
@@ -1812,7 +1816,7 @@ public final class MakerStarts {
             } else if (lenient) {
                 push(0);
             } else {
-                raise(DIVIDED);
+                leaveWith(A_THROW, DIVIDED);
             }
         }
 
@@ -1852,7 +1856,7 @@ public final class MakerStarts {
                 return false;
             }
             if (states[t] == ABSENT) {
-                raise(GONE);
+                leaveWith(A_THROW, GONE);
                 return false;
             }
             if (states[t] == UNTOUCHED) {
@@ -1933,7 +1937,7 @@ public final class MakerStarts {
                 return;
             }
             if (calls >= CALLS) {
-                raise(DEEP);
+                leaveWith(A_THROW, DEEP);
                 return;
             }
             countStep();
@@ -1962,7 +1966,7 @@ public final class MakerStarts {
                 return;
             }
             if (calls >= CALLS) {
-                raise(DEEP);
+                leaveWith(A_THROW, DEEP);
                 return;
             }
             int count = maker.parameterCount;
@@ -1996,79 +2000,62 @@ public final class MakerStarts {
             }
         }
 
-        /** What is THROWN goes down the frames till a catch takes it, or a finally makes it wait. */
-        private void raise(int number) {
-            int thrown = number;
-            for (int i = 0; i < FRAMES * (NESTED + 2) && !over; i++) {
-                if (now.isTrying()) {
-                    if (isHeld(thrown)) {
-                        return;
-                    }
-                } else if (now.kind == TOP) {
-                    over = true;
-                    answer = thrown;
-                } else {
-                    thrown = now.kind == STARTING && now.own ? UNSTARTED : thrown;
-                    if (now.kind == STARTING) {
-                        settle(ABSENT);
-                    }
-                    drop();
-                }
-            }
+        private void leaveWith(int what, int value) {
+            leaving = what;
+            leavingValue = value;
         }
 
-        /** Does the innermost try of the frame take it, or does its finally come first? If not, it is left. */
-        private boolean isHeld(int thrown) {
+        /** A catch takes what leaves the innermost try, or a finally makes it wait; else the try is left. */
+        private void leaveTry() {
             int code = now.tryCode();
-            if (now.phase() == IN_BODY && text.codeAt(code + TRY_NUMBER) == thrown) {
+            boolean caught = leaving == A_THROW && now.phase() == IN_BODY
+                    && text.codeAt(code + TRY_NUMBER) == leavingValue;
+            if (caught) {
                 now.toCatch();
                 top = now.base;
                 pc = text.codeAt(code + TRY_CATCH);
-                return true;
+                leaving = NOTHING;
+            } else if (!goesToFinally()) {
+                now.closeTry();
             }
-            return isFinal(A_THROW, thrown);
         }
 
-        /** Goes to the finally of the innermost try, if there is one that has not begun; else that try is left. */
-        private boolean isFinal(int what, int value) {
+        /** If the innermost try has a finally that has not begun, it is next; what leaves waits for its end. */
+        private boolean goesToFinally() {
             int code = text.codeAt(now.tryCode() + TRY_FINALLY);
             if (now.phase() == IN_FINALLY || code == NONE) {
-                now.closeTry();
                 return false;
             }
-            now.toFinally(what, value);
+            now.toFinally(leaving, leavingValue);
             top = now.base;
             pc = code;
+            leaving = NOTHING;
             return true;
         }
 
-        /** Behind a BODY or a catch that has ended well. */
-        private void leave() {
-            int end = text.codeAt(now.tryCode() + TRY_END);
-            if (!isFinal(NOTHING, 0)) {
-                pc = end;
+        /** Behind a BODY of a try, or its catch, that has ended well. */
+        private void endPart() {
+            if (!goesToFinally()) {
+                pc = text.codeAt(now.tryCode() + TRY_END);
+                now.closeTry();
             }
         }
 
-        private void finish() {
-            int what = now.waits();
-            int value = now.waitingValue();
-            now.closeTry();
-            if (what == A_THROW) {
-                raise(value);
-            } else if (what == A_RETURN) {
-                giveBack(value);
-            }
-        }
-
-        private void giveBack(int value) {
-            for (int i = 0; i <= NESTED && now.isTrying(); i++) {
-                if (isFinal(A_RETURN, value)) {
-                    return;
+        private void leaveFrame() {
+            if (now.kind == TOP) {
+                over = true;
+                answer = leavingValue;
+            } else if (leaving == A_RETURN) {
+                drop();
+                push(leavingValue);
+                leaving = NOTHING;
+            } else {
+                if (now.kind == STARTING) {
+                    settle(ABSENT);
+                    leavingValue = now.own ? UNSTARTED : leavingValue;
                 }
+                drop();
             }
-            drop();
-            push(value);
         }
     }
 }
