@@ -853,7 +853,7 @@ public final class MakerStarts {
             nameMember(member, CONSTANT, FIELD | STATIC | CONSTANT);
             member.still = true;
             tokens.need('=');
-            bodies.enter(member, true);
+            bodies.enter(member, member.still);
             member.code = text.size;
             bodies.exp();
             text.put(OP_DONE);

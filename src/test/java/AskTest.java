@@ -126,15 +126,15 @@ public final class AskTest {
     }
 
     private static void held() {
-        MakerStarts x = C.right("type a{const k=7*6;static field s=k;field x;static field u;block{}const z=5/0;const y=1+7%(k-42);maker(){u=u+1;}}"
+        MakerStarts x = C.right("type a{const k=7*6;static field s=k;field x;static field u;block{}const z=3+5/0;const y=1+7%(k-42)*9+4;maker(){u=u+1;}}"
                 + "type b:a{const m=k-1;}type c{const w=999999999*999999999;const n=b.m*2+a.z-(-w);}");
         C.due("k", x.held(0, 0), 42);
         C.due("s is 0 yet", x.held(0, 1), 0);
-        C.due("/ by 0 in a constant", x.held(0, 5), 0);
-        C.due("% by 0 in a constant", x.held(0, 6), 1);
+        C.due("/ by 0 in a constant", x.held(0, 5), 3);
+        C.due("% by 0 in a constant", x.held(0, 6), 5);
         C.due("m", x.held(1, 0), 41);
         C.due("w wraps", x.held(2, 0), 999999999 * 999999999);
-        C.due("n", x.held(2, 1), 82 + 999999999 * 999999999);
+        C.due("n", x.held(2, 1), 85 + 999999999 * 999999999);
         C.due("asking starts none", x.type(0, 3), 0);
         x.make(0, 0, 0, 0, 0);
         x.make(0, 0, 0, 0, 0);

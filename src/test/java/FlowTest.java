@@ -53,6 +53,9 @@ public final class FlowTest {
         C.fault(11, "type a{^static block{throw 1;}}");
         C.fault(11, "type a{^act f(){new b();}}type b{maker()fails 2{}}");
         C.right("type a{act f(){new b();}}type b{maker()fails 4,5,6{}}");
+        C.right("type a{act f(){try{throw 1;}finally{return 2;}}}");
+        C.right("type a{act f(){try{throw 1;}finally{if(0<1){return 2;}else{throw 4;}}}}");
+        C.fault(11, "type a{^act f(){try{throw 1;}finally{if(0<1){return 2;}}}}");
         C.right("type a{static block{try{throw 1;}catch 1{}}act f(){try{throw 2;}catch 2{}}}");
     }
 

@@ -59,6 +59,11 @@ public final class MakeTest {
 
         MakerStarts z = C.right("type a{maker(){mark f();}act f(){z=3;}field z=4;}type b:a{field y;maker(){mark y;}act f(){y=8;}}");
         C.due("make of b", z.make(1, 0, 0, 0, 0), 0);
+        C.reads(z, "type a{field x;act f(){x=f0.k;}maker(p){mark p+f()*7-f();if(0<p){x=p/f();}}}type f0{const k=2;}");
+        C.due("make with 0 of an act", z.make(0, 1, 5, 0, 0), 7);
+        C.marks("acts without return", z, 5);
+        C.reads(z, "type a{maker(){mark f();}act f(){z=3;}field z=4;}type b:a{field y;maker(){mark y;}act f(){y=8;}}");
+        C.due("make of b", z.make(1, 0, 0, 0, 0), 0);
         C.marks("an act without return gives 0; a field without EXP keeps what it was set to", z, 0, 8);
         C.due("make of a", z.make(0, 0, 0, 0, 0), 0);
         C.due("z was set by the act behind its EXP", z.field(0, 2), 3);
@@ -149,6 +154,9 @@ public final class MakeTest {
         body(5, "try{throw 5;}finally{try{throw 4;}catch 4{mark 1;}mark 2;}mark 3;", 1, 2);
         body(5, "try{try{throw 5;}finally{try{mark 1;}finally{mark 2;}}}finally{mark 3;}", 1, 2, 3);
         body(0, "try{}finally{}mark 1;", 1);
+        body(0, "try{mark 1;}catch 7{mark 2;}mark 3;", 1, 3);
+        body(0, Checks.repeat("try{}finally{}", 12) + Checks.repeat("try{throw 4;}catch 4{}", 12) + "try{throw 5;}catch 5{mark 1;}", 1);
+        body(0, "try{" + Checks.repeat("try{throw 4;}catch 4{}finally{}", 9) + "throw 5;}catch 5{mark 1;}", 1);
         body(0, "p=1;try{p=2+1/0;}catch 7{mark p;}", 1);
 
         MakerStarts x = C.right("type a{maker()fails 1,2{try{new b();}catch 4{mark 4;}try{new c();}catch 1{mark 1;}new c();}}"
@@ -224,6 +232,15 @@ public final class MakeTest {
         C.due("all of 120 steps", y.told(4), 1 + 1 + 6 * 17 + 1 + 15);
         C.due("two more", y.make(0, 0, 0, 0, 0), 12);
         C.due("120 steps", y.told(4), 120);
+        C.due("it begins anew then", y.make(0, 1, 0, 0, 0), 0);
+
+        MakerStarts z = C.right("type a{field n;field e;act f(){n=n+1;if(n<e){return f();}" + Checks.repeat("e=1;", 60)
+                + "}maker(p){e=p;n=f();}}");
+        C.due("spent with 22 acts under way", z.make(0, 1, 22, 0, 0), 12);
+        C.due("as it was left", z.field(0, 0), 22);
+        C.due("none is under way any more", z.make(0, 1, 14, 0, 0), 0);
+        C.due("23 acts are well, but for their steps", z.make(0, 1, 23, 0, 0), 12);
+        C.due("24 are not", z.make(0, 1, 24, 0, 0), 11);
     }
 
     private static void deep() {

@@ -131,5 +131,7 @@ public final class NamesTest {
         C.fault(4, "type a{maker(p){}}type b:a{maker()super(1);{}^maker(){}}");
         C.fault(11, "type a{^maker(){throw 1;}field x=y;}");
         C.fault(5, "type a{field x=^y;maker(){throw 1;}}");
+        C.fault(9, "type a{act f(){throw ^9;}field x=y;}");
+        C.fault(11, "type a{^act f(){throw 1;}field x=y;}");
     }
 }

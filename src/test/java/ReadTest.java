@@ -9,6 +9,7 @@ public final class ReadTest {
         tooMany();
         tooDeep();
         whatComesFirst();
+        manyTexts();
         wrongTextChangesNothing();
         rightTextChangesAll();
         C.end();
@@ -121,6 +122,7 @@ public final class ReadTest {
         C.right("type t{block{" + forty + "}block{" + forty + "}}");
         C.fault(3, "type t{block{" + forty + "}block{" + forty + "^mark 1;}}");
         C.fault(3, "type t{block{" + forty + "}block{if(0<1){" + Checks.repeat("mark 1;", 39) + "^x");
+        C.fault(3, "type t{block{" + forty + forty + "^mark 1;}}");
         C.fault(2, "type t{block{" + forty + "}block{" + forty + "^return 1;}}");
     }
 
@@ -148,6 +150,23 @@ public final class ReadTest {
         C.fault(2, "type a{^x @}");
         C.fault(1, "type a{field x=y;field x;block{throw 9;}^@");
         C.fault(2, "type a:b{field x=y;^;}");
+    }
+
+    private static void manyTexts() {
+        MakerStarts x = new MakerStarts();
+        String one = "type a{static field s=2;field x=a.s;maker(p){" + Checks.repeat("x=x*p;", 70) + "mark x;}}";
+        String other = "type b{const k=3;maker(q,p){" + Checks.repeat("p=q;", 70) + "mark p+k;mark q;}}";
+        for (int i = 0; i < 5; i++) {
+            C.reads(x, i % 2 == 0 ? one : other);
+            C.due("make of text " + i, x.make(0, 1 + i % 2, 1, 5, 0), 0);
+            if (i % 2 == 0) {
+                C.marks("text " + i, x, 2);
+            } else {
+                C.marks("text " + i, x, 4, 1);
+            }
+            Checks.feed(x, "type a{block{if(0<1){mark (((1");
+            C.due("a text that ends in the deep", x.read(), -22);
+        }
     }
 
     private static void wrongTextChangesNothing() {
