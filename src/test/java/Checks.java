@@ -8,6 +8,10 @@ final class Checks {
         int answer();
     }
 
+    interface Ask {
+        int of(MakerStarts x);
+    }
+
     private int wrong = 0, asked = 0;
 
     void due(String what, long got, long want) {
@@ -21,12 +25,7 @@ final class Checks {
     /** The call throws an exception of just this class. */
     void dueThrow(String what, Call call, String want) {
         asked++;
-        String got;
-        try {
-            got = "answer " + call.answer();
-        } catch (RuntimeException e) {
-            got = e.getClass().getSimpleName();
-        }
+        String got = answer(call);
         if (!got.equals(want)) {
             wrong++;
             System.out.println(what + " gave " + got + ", due is " + want);
@@ -77,6 +76,49 @@ final class Checks {
             due(what + ": mark " + i, x.marked(i), want[i]);
         }
         dueThrow(what + ": a mark too many", () -> x.marked(x.told(1)), INDEX);
+    }
+
+    /** All that can be asked without changing anything, but for the place of the latest FAULT. */
+    static String state(MakerStarts x) {
+        StringBuilder b = new StringBuilder();
+        for (int what = 0; what <= 4; what++) {
+            b.append(" told ").append(x.told(what));
+        }
+        for (int i = 0; i < x.told(1); i++) {
+            b.append(" mark ").append(x.marked(i));
+        }
+        for (int t = 0; t < x.told(0); t++) {
+            for (int what = 0; what <= 4; what++) {
+                b.append(" type ").append(x.type(t, what));
+            }
+            for (int f = 0; f < 8; f++) {
+                int type = t;
+                int member = f;
+                b.append(" field ").append(answer(() -> x.field(type, member)));
+                b.append(" held ").append(answer(() -> x.held(type, member)));
+            }
+            for (int n = 0; n <= 3; n++) {
+                b.append(" fails ").append(x.fails(t, n));
+            }
+        }
+        return b.toString();
+    }
+
+    private static String answer(Call call) {
+        try {
+            return "" + call.answer();
+        } catch (RuntimeException e) {
+            return e.getClass().getSimpleName();
+        }
+    }
+
+    /** Both are what state() told. */
+    void same(String what, String got, String want) {
+        asked++;
+        if (!got.equals(want)) {
+            wrong++;
+            System.out.println(what + " left" + got + ", due is" + want);
+        }
     }
 
     static String repeat(String part, int n) {
