@@ -216,11 +216,14 @@ public final class StepsTest {
         for (int i = 0; i < 30; i++) {
             C.due("spent", x.make(0, 1, 20, 0, 0), 12);
             C.due("n of the spent", x.field(0, 0), 20);
-            C.due("no try of the spent one", x.make(0, 0, 0, 0, 0), 4);
-            C.due("no try of the spent one", x.make(0, 2, 0, 0, 0), 5);
+            C.due("no catch of the spent one", x.make(0, 2, 0, 0, 0), 5);
+            C.due("spent", x.make(0, 1, 20, 0, 0), 12);
+            C.due("no finally of the spent one", x.make(0, 0, 0, 0, 0), 4);
+            C.due("spent", x.make(0, 1, 20, 0, 0), 12);
             C.due("well", x.make(0, 1, 5, 0, 0), 0);
             C.due("n", x.field(0, 0), 5);
             C.due("r", x.field(0, 2), 7);
+            C.due("spent", x.make(0, 1, 20, 0, 0), 12);
             C.due("b", x.make(1, 0, 0, 0, 0), 0);
             C.due("x of b", x.field(1, 1), 19);
         }
