@@ -24,6 +24,11 @@ final class Checks {
 
     /** The call throws an exception of just this class. */
     void dueThrow(String what, Call call, String want) {
+        dueAnswer(what, call, want);
+    }
+
+    /** The call answers this number, or throws an exception of just this class. */
+    void dueAnswer(String what, Call call, String want) {
         asked++;
         String got = answer(call);
         if (!got.equals(want)) {
